@@ -187,12 +187,8 @@ public final class LeanTable {
         if (lacksName(k)) {
             return refuse(NONE_SUCH);
         }
-        if (now.nextDish(told, false) == k) {
-            return answer(NOBODY);
-        }
-        // A guest of less than the name's from, or of no more than the namer's hunger, brings no new name.
-        int least = Math.max(told.from[k], greatestSeen() + 1);
-        return answer(least <= MOST_GUEST && dishWithGuest(least) == k ? least : NOBODY);
+        // Of a from that the namer reaches, the dish has the name already, or one that a hungrier guest reaches, too.
+        return answer(told.from[k] > greatestSeen() ? told.from[k] : NOBODY);
     }
 
     // ---- days to come
@@ -1336,6 +1332,15 @@ public final class LeanTable {
             return living(told) & ~fastingNext(told);
         }
 
+        /** Those who die on the next DAY if they eat nothing. */
+        int endangered(Told told) {
+            int bits = 0;
+            for (int p = 0; p < told.people; p++) {
+                bits |= !isDead(p) && hunger[p] + told.need[p] > told.starve ? 1 << p : 0;
+            }
+            return bits;
+        }
+
         int seenHunger(Told told, int p) {
             int grown = hunger[p] + told.need[p];
             switch (told.kind[p]) {
@@ -1430,7 +1435,7 @@ public final class LeanTable {
         void hold(Told told, Plight plight, int besides, boolean flinches, int bowl) {
             int fasting = plight.fastingNext(told) | besides;
             who = plight.whoNames(told, flinches);
-            what = plight.nextDish(told, flinches);
+            what = who < 0 ? NOBODY : told.nameSeen(plight.seenHunger(told, who));
             plight.grow(told);
             int eaters = seat(told, plight, plight.living(told) & ~fasting);
             plight.portions = Math.min(MOST_PORTIONS, plight.portions + bowl);
@@ -1545,21 +1550,18 @@ public final class LeanTable {
             if (day < 0 || day >= days || day >= DAYS_TO_FAST) {
                 return;
             }
-            Plight before = plights[day];
-            Plight behind = plights[day + 1];
             boolean isLast = day == days - 1;
-            if (isLast && before.nextDish(told, false) != wanted) {
+            if (isLast && plights[day].nextDish(told, false) != wanted) {
                 return;
             }
-            int free = before.freeToFast(told);
+            // All who are safe fasting is the best for the others: who dies then dies by any fasts.
+            int free = plights[day].freeToFast(told) & ~plights[day].endangered(told);
+            if (!keepsAll(told, day, free)) {
+                return;
+            }
             for (int more = 0; more <= free; more++) {
                 int all = bits | more << MOST_PEOPLE * day;
-                if ((more & ~free) != 0 || !isBetter(all)) {
-                    continue;
-                }
-                behind.copy(before);
-                meal.hold(told, behind, more, false, told.bowl);
-                if (behind.dead != before.dead) {
+                if ((more & ~free) != 0 || !isBetter(all) || !keepsAll(told, day, more)) {
                     continue;
                 }
                 if (isLast) {
@@ -1569,6 +1571,12 @@ public final class LeanTable {
                     seekOn(told, day + 1, all);
                 }
             }
+        }
+
+        private boolean keepsAll(Told told, int day, int besides) {
+            plights[day + 1].copy(plights[day]);
+            meal.hold(told, plights[day + 1], besides, false, told.bowl);
+            return plights[day + 1].dead == plights[day].dead;
         }
 
         private boolean isBetter(int bits) {

@@ -174,13 +174,10 @@ public final class LeanTable {
     }
 
     public int nameWith(int hunger) {
-        if (lacksTable()) {
-            return refuse(NONE_SUCH);
+        if (isRefused(lacksTable(), hunger, 0, MOST_GUEST)) {
+            return NONE;
         }
-        if (isOutside(hunger, 0, MOST_GUEST)) {
-            return refuse(BAD_NUMBER);
-        }
-        return answer(dishWithGuest(hunger));
+        return dishWithGuest(hunger);
     }
 
     public int guestFor(int k) {
@@ -194,51 +191,58 @@ public final class LeanTable {
     // ---- days to come
 
     public int namerIn(int n) {
-        if (cannotWalk(n, 1)) {
+        if (isRefused(lacksTable(), n, 1, DAYS_AHEAD)) {
             return NONE;
         }
+        course.walk(told, now, n);
         return course.meal.who;
     }
 
     public int dishIn(int n) {
-        if (cannotWalk(n, 1)) {
+        if (isRefused(lacksTable(), n, 1, DAYS_AHEAD)) {
             return NONE;
         }
+        course.walk(told, now, n);
         return course.meal.what;
     }
 
     public int hungerIn(int p, int n) {
-        if (cannotWalkFor(p, n)) {
+        if (isRefused(lacksPerson(p), n, 0, DAYS_AHEAD)) {
             return NONE;
         }
+        course.walk(told, now, n);
         return course.plight.hunger[p];
     }
 
     public int leftIn(int n) {
-        if (cannotWalk(n, 0)) {
+        if (isRefused(lacksTable(), n, 0, DAYS_AHEAD)) {
             return NONE;
         }
+        course.walk(told, now, n);
         return course.plight.portions;
     }
 
     public int livingIn(int n) {
-        if (cannotWalk(n, 0)) {
+        if (isRefused(lacksTable(), n, 0, DAYS_AHEAD)) {
             return NONE;
         }
+        course.walk(told, now, n);
         return course.plight.living(told);
     }
 
     public int hungriestIn(int n) {
-        if (cannotWalk(n, 0)) {
+        if (isRefused(lacksTable(), n, 0, DAYS_AHEAD)) {
             return NONE;
         }
+        course.walk(told, now, n);
         return course.plight.hungriest(told);
     }
 
     public int unevenIn(int n) {
-        if (cannotWalk(n, 0)) {
+        if (isRefused(lacksTable(), n, 0, DAYS_AHEAD)) {
             return NONE;
         }
+        course.walk(told, now, n);
         return course.plight.unevenness(told);
     }
 
@@ -257,16 +261,18 @@ public final class LeanTable {
     }
 
     public int eats(int p, int n) {
-        if (cannotWalkFor(p, n)) {
+        if (isRefused(lacksPerson(p), n, 0, DAYS_AHEAD)) {
             return NONE;
         }
+        course.walk(told, now, n);
         return course.ate[p];
     }
 
     public int says(int p, int n) {
-        if (cannotWalkFor(p, n)) {
+        if (isRefused(lacksPerson(p), n, 0, DAYS_AHEAD)) {
             return NONE;
         }
+        course.walk(told, now, n);
         return course.said[p];
     }
 
@@ -285,32 +291,36 @@ public final class LeanTable {
     }
 
     public int named(int n) {
-        if (cannotWalk(n, 0)) {
+        if (isRefused(lacksTable(), n, 0, DAYS_AHEAD)) {
             return NONE;
         }
+        course.walk(told, now, n);
         return course.dishes;
     }
 
     public int worthIn(int n) {
-        if (cannotWalk(n, 0)) {
+        if (isRefused(lacksTable(), n, 0, DAYS_AHEAD)) {
             return NONE;
         }
+        course.walk(told, now, n);
         return course.worthTogether;
     }
 
     // ---- who should fast
 
     public int fastsFor(int k, int n) {
-        if (cannotSeekFasts(k, n)) {
+        if (isRefused(lacksName(k), n, 1, DAYS_TO_FAST)) {
             return NONE;
         }
+        search.seekName(told, now, k, n);
         return search.isFound() ? search.bestCount : NOBODY;
     }
 
     public int fastsAt(int k, int n) {
-        if (cannotSeekFasts(k, n)) {
+        if (isRefused(lacksName(k), n, 1, DAYS_TO_FAST)) {
             return NONE;
         }
+        search.seekName(told, now, k, n);
         return search.isFound() ? search.bestBits : NOBODY;
     }
 
@@ -345,18 +355,15 @@ public final class LeanTable {
     }
 
     public int bowlFor(int n) {
-        if (lacksTable()) {
-            return refuse(NONE_SUCH);
-        }
-        if (isOutside(n, 0, DAYS_AHEAD)) {
-            return refuse(BAD_NUMBER);
+        if (isRefused(lacksTable(), n, 0, DAYS_AHEAD)) {
+            return NONE;
         }
         for (int bowl = 1; bowl <= MOST_BOWL; bowl++) {
             if (bowlKeepsAll(bowl, n)) {
-                return answer(bowl);
+                return bowl;
             }
         }
-        return answer(NOBODY);
+        return NOBODY;
     }
 
     // ---- unsure hungers
@@ -421,14 +428,14 @@ public final class LeanTable {
     // ---- cook and glutton
 
     public int takes(int shame, boolean cook, boolean glutton, boolean ofGlutton) {
-        if (cannotShame(shame)) {
+        if (isRefused(lacksTable(), shame, 0, MOST_SHAME)) {
             return NO_TAKING;
         }
         return ofGlutton ? gain(shame, glutton, cook) : gain(shame, cook, glutton);
     }
 
     public int rests(int shame) {
-        if (cannotShame(shame)) {
+        if (isRefused(lacksTable(), shame, 0, MOST_SHAME)) {
             return NONE;
         }
         int count = 0;
@@ -439,7 +446,7 @@ public final class LeanTable {
     }
 
     public int rest(int shame) {
-        if (cannotShame(shame)) {
+        if (isRefused(lacksTable(), shame, 0, MOST_SHAME)) {
             return NONE;
         }
         for (int pair = 0; pair < 4; pair++) {
@@ -453,34 +460,26 @@ public final class LeanTable {
     // ---- who flinches
 
     public long odds(int k, int n, boolean lower) {
-        if (lacksName(k)) {
-            return refuse(NONE_SUCH);
+        if (isRefused(lacksName(k), n, 1, DAYS_OF_CHANCE)) {
+            return NONE;
         }
-        if (isOutside(n, 1, DAYS_OF_CHANCE)) {
-            return refuse(BAD_NUMBER);
-        }
-        lastTrouble = 0;
         chances.weigh(told, now, n);
         return Chances.lowest(chances.weight[k], chances.whole, lower);
     }
 
     public long mean(int n, boolean lower) {
-        if (lacksTable()) {
-            return refuse(NONE_SUCH);
+        if (isRefused(lacksTable(), n, 1, DAYS_OF_CHANCE)) {
+            return NONE;
         }
-        if (isOutside(n, 1, DAYS_OF_CHANCE)) {
-            return refuse(BAD_NUMBER);
-        }
-        lastTrouble = 0;
         chances.weigh(told, now, n);
         return Chances.lowest(chances.weightOfWorths(told, now), chances.whole, lower);
     }
 
     public int drawn(int seed, int n) {
-        if (lacksTable()) {
-            return refuse(NONE_SUCH);
+        if (isRefused(lacksTable(), n, 1, DAYS_AHEAD)) {
+            return NONE;
         }
-        if (isOutside(seed, 0, MOST_SEED) || isOutside(n, 1, DAYS_AHEAD)) {
+        if (isOutside(seed, 0, MOST_SEED)) {
             return refuse(BAD_NUMBER);
         }
         return answer(chances.dishByDraws(told, now, seed, n));
@@ -513,11 +512,8 @@ public final class LeanTable {
     }
 
     public int give(int p, int much) {
-        if (lacksPerson(p)) {
-            return refuse(NONE_SUCH);
-        }
-        if (isOutside(much, 1, MOST_GIFT)) {
-            return refuse(BAD_NUMBER);
+        if (isRefused(lacksPerson(p), much, 1, MOST_GIFT)) {
+            return NONE;
         }
         if (now.isDead(p) || now.hunger[p] == 0) {
             return refuse(NOT_SO);
@@ -528,11 +524,8 @@ public final class LeanTable {
     }
 
     public int pour(int much) {
-        if (lacksTable()) {
-            return refuse(NONE_SUCH);
-        }
-        if (isOutside(much, 1, MOST_PORTIONS)) {
-            return refuse(BAD_NUMBER);
+        if (isRefused(lacksTable(), much, 1, MOST_PORTIONS)) {
+            return NONE;
         }
         if (now.portions + much > MOST_PORTIONS) {
             return refuse(NO_ROOM);
@@ -543,11 +536,8 @@ public final class LeanTable {
     }
 
     public int value(int k, int worth) {
-        if (lacksName(k)) {
-            return refuse(NONE_SUCH);
-        }
-        if (isOutside(worth, 0, MOST_WORTH)) {
-            return refuse(BAD_NUMBER);
+        if (isRefused(lacksName(k), worth, 0, MOST_WORTH)) {
+            return NONE;
         }
         int old = now.worth[k];
         if (old == worth) {
@@ -660,53 +650,14 @@ public final class LeanTable {
         return it < least || it > most;
     }
 
-    private boolean cannotWalk(int n, int least) {
-        if (lacksTable()) {
+    /** Tells the TROUBLE of a call that needs something and a number within bounds: none, 1 or 2. */
+    private boolean isRefused(boolean lacks, int it, int least, int most) {
+        if (lacks) {
             lastTrouble = NONE_SUCH;
-            return true;
+        } else {
+            lastTrouble = isOutside(it, least, most) ? BAD_NUMBER : 0;
         }
-        if (isOutside(n, least, DAYS_AHEAD)) {
-            lastTrouble = BAD_NUMBER;
-            return true;
-        }
-        lastTrouble = 0;
-        course.walk(told, now, n);
-        return false;
-    }
-
-    private boolean cannotWalkFor(int p, int n) {
-        if (lacksPerson(p)) {
-            lastTrouble = NONE_SUCH;
-            return true;
-        }
-        return cannotWalk(n, 0);
-    }
-
-    private boolean cannotSeekFasts(int k, int n) {
-        if (lacksName(k)) {
-            lastTrouble = NONE_SUCH;
-            return true;
-        }
-        if (isOutside(n, 1, DAYS_TO_FAST)) {
-            lastTrouble = BAD_NUMBER;
-            return true;
-        }
-        lastTrouble = 0;
-        search.seekName(told, now, k, n);
-        return false;
-    }
-
-    private boolean cannotShame(int shame) {
-        if (lacksTable()) {
-            lastTrouble = NONE_SUCH;
-            return true;
-        }
-        if (isOutside(shame, 0, MOST_SHAME)) {
-            lastTrouble = BAD_NUMBER;
-            return true;
-        }
-        lastTrouble = 0;
-        return false;
+        return lastTrouble != 0;
     }
 
     // ---- guests, tables, bowls
@@ -922,20 +873,16 @@ public final class LeanTable {
             step();
             boolean good = readLine(into);
             for (int lines = 0; lines < MOST_BYTES && good && token != AT_END; lines++) {
-                good = readNextLine(into);
+                if (token != MARK) {
+                    return fail(FORM);
+                }
+                step();
+                good = readLine(into);
             }
             if (good && (into.people == 0 || !into.hasFrom(0))) {
                 good = fail(LACKS);
             }
             return good;
-        }
-
-        private boolean readNextLine(Told into) {
-            if (token != MARK) {
-                return fail(FORM);
-            }
-            step();
-            return readLine(into);
         }
 
         private boolean readLine(Told into) {
@@ -1130,7 +1077,7 @@ public final class LeanTable {
         }
 
         private boolean findsNewName(boolean ofPerson, int number) {
-            if (!isNameHere() || words >= wordStart.length) {
+            if (token != WORD || lineSort() >= 0 || words >= wordStart.length) {
                 return fail(FORM);
             }
             if (wordHere() >= 0) {
@@ -1146,7 +1093,7 @@ public final class LeanTable {
         }
 
         private int toldNameHere(boolean ofPerson) {
-            if (!isNameHere()) {
+            if (token != WORD || lineSort() >= 0) {
                 fail(FORM);
                 return NONE;
             }
@@ -1156,10 +1103,6 @@ public final class LeanTable {
                 return NONE;
             }
             return word;
-        }
-
-        private boolean isNameHere() {
-            return token == WORD && lineSort() < 0;
         }
 
         private int wordHere() {
@@ -1366,13 +1309,21 @@ public final class LeanTable {
         }
 
         int whoNames(Told told, boolean flinches) {
-            int living = living(told);
-            int first = mostSeen(told, living);
-            if (first < 0 || !flinches) {
-                return first;
+            int first = NOBODY;
+            int next = NOBODY;
+            for (int p = 0; p < told.people; p++) {
+                if (isDead(p)) {
+                    continue;
+                }
+                int seenOfOne = seenHunger(told, p);
+                if (first < 0 || seenOfOne > seenHunger(told, first)) {
+                    next = first;
+                    first = p;
+                } else if (next < 0 || seenOfOne > seenHunger(told, next)) {
+                    next = p;
+                }
             }
-            int next = mostSeen(told, living & ~(1 << first));
-            return next < 0 ? first : next;
+            return flinches && next >= 0 ? next : first;
         }
 
         int nextDish(Told told, boolean flinches) {

@@ -1,3 +1,6 @@
+import java.util.function.IntFunction;
+import java.util.function.ToLongFunction;
+
 /** Counts answers that are due, and lays tables from plain texts. */
 final class Due {
     private int right;
@@ -19,6 +22,14 @@ final class Due {
         }
     }
 
+    int looked() {
+        return right + wrong;
+    }
+
+    void fail(String why) {
+        is(why, 1, 0);
+    }
+
     void yes(String call, boolean got) {
         is(call, got ? 1 : 0, 1);
     }
@@ -33,6 +44,28 @@ final class Due {
         is(call + ", then trouble()", x.trouble(), trouble);
     }
 
+    /** A call that needs a TABLE, on an object that has none. */
+    void noTable(ToLongFunction<LeanTable> call) {
+        LeanTable none = new LeanTable();
+        refused("without a TABLE", none, call.applyAsLong(none), 1);
+    }
+
+    /** A call that is refused for each of these numbers, and for those that no bound of the document holds. */
+    void refusedBy(int trouble, LeanTable x, IntFunction<Number> call, int... numbers) {
+        for (int n : numbers) {
+            refused("by " + n, x, call.apply(n).longValue(), trouble);
+        }
+        for (int n : Texts.WILD) {
+            refused("by " + n, x, call.apply(n).longValue(), trouble);
+        }
+    }
+
+    /** A call that isn't refused, and its answer. */
+    void answered(String call, LeanTable x, long got, long want) {
+        is(call, got, want);
+        is(call + ", then trouble()", x.trouble(), 0);
+    }
+
     void fault(String text, int number, int place) {
         LeanTable x = new LeanTable();
         is("table of '" + text + "'", tell(x, text), -1);
@@ -40,6 +73,11 @@ final class Due {
         is("fault() of '" + text + "'", x.fault(), number);
         is("where() of '" + text + "'", x.where(), place);
         is("size(11) of '" + text + "'", x.size(11), 0);
+    }
+
+    /** The sign ^ stands ahead of the place at which the fault is due, and isn't part of the text. */
+    void faultAt(int number, String marked) {
+        fault(marked.replace("^", ""), number, marked.indexOf('^'));
     }
 
     void good(String text, int people) {
@@ -81,6 +119,13 @@ final class Due {
         if (tell(x, text) < 0) {
             throw new IllegalStateException("fault " + x.fault() + " at " + x.where() + " in: " + text);
         }
+        return x;
+    }
+
+    /** x of DOOMED behind the day on which it dies. */
+    static LeanTable allDead() {
+        LeanTable x = lay(Texts.DOOMED);
+        x.day();
         return x;
     }
 

@@ -3,17 +3,12 @@ import java.util.function.IntSupplier;
 
 /** Each promise by its number: ordinary inputs, edges, wrong inputs, with answers worked out by hand. */
 public final class PromiseTest {
-    private static final String HEAD = "table bowl 3 starve 9 flinch 0";
-    private static final String SHORT = HEAD + ";person a plain hunger 9 need 1;name n from 0 worth 1";
-    /** Day by day: 9 6 5, cy names broth; 6 5 4, cy broth; 3 7 2, bo broth; 3 3 2, cy turnip; 4 4 3, cy turnip. */
-    private static final String FEAST = "table bowl 4 starve 30 flinch 50;person ann plain hunger 6 need 3;"
-        + "person bo poet hunger 4 need 2;person cy child hunger 3 need 2;name turnip from 0 worth 1;"
-        + "name broth from 8 worth 3;name duck from 12 worth 5;fast bo day 2;unsure cy 7;heard broth day 1;heard broth day 3";
-    private static final String DOOMED = "table bowl 1 starve 5 flinch 100;person x plain hunger 4 need 3;name n from 0 worth 0";
-    private static final String LONELY_POET = "table bowl 9 starve 50 flinch 0;person a poet hunger 0 need 1;"
-        + "name n from 0 worth 9;name m from 5 worth 1";
-    private static final String UNSURE = "table bowl 5 starve 100 flinch 0;person a plain hunger 5 need 1;"
-        + "person b plain hunger 5 need 1;name low from 0 worth 1;name mid from 11 worth 1;name top from 21 worth 1";
+    private static final String HEAD = Texts.HEAD;
+    private static final String SHORT = Texts.SHORT;
+    private static final String FEAST = Texts.FEAST;
+    private static final String DOOMED = Texts.DOOMED;
+    private static final String LONELY_POET = Texts.LONELY_POET;
+    private static final String UNSURE = Texts.UNSURE;
 
     private static final Due DUE = new Due();
 

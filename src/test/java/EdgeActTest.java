@@ -353,7 +353,7 @@ public final class EdgeActTest {
     }
 
     @Says("IV. TROUBLE of the latest call that may be refused (those of which a number is told here):")
-    private static void term4_callsWithoutANumberLeaveTroubleAlone(Due due) {
+    private static void promise59_callsWithoutANumberLeaveTroubleAlone(Due due) {
         LeanTable x = Due.lay(Texts.FED);
         for (int i = 0; i < 35; i++) {
             x.feed(0, 0, 0, 0, 0);
@@ -405,7 +405,7 @@ public final class EdgeActTest {
     }
 
     @Says("The constants: `NONE = -1`: There is none; refused.")
-    private static void term4_none(Due due) {
+    private static void promise1_none(Due due) {
         due.is("NONE", LeanTable.NONE, -1);
         due.is("left(), refused", new LeanTable().left(), LeanTable.NONE);
     }

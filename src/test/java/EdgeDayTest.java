@@ -20,7 +20,7 @@ public final class EdgeDayTest {
     // ---- II
 
     @Says({"II. A DAY, for all who live:", "1 each one's hunger is more by the need."})
-    private static void term2_eachOnesHungerIsMoreByTheNeed(Due due) {
+    private static void promise49_eachOnesHungerIsMoreByTheNeed(Due due) {
         LeanTable x = lay("bowl 1 starve 200 flinch 0", people("plain 0 1", "plain 99 9"), 0, 1);
         due.is("seen(0)", x.seen(0), 1);
         due.is("seen(1)", x.seen(1), 108);
@@ -32,7 +32,7 @@ public final class EdgeDayTest {
     }
 
     @Says({"2 SEEN hunger: of a plain one that;", "of a child twice that."})
-    private static void term2_seenHungerOfAPlainOneAndAChild(Due due) {
+    private static void promise9_seenHungerOfAPlainOneAndAChild(Due due) {
         LeanTable x = lay("bowl 1 starve 200 flinch 0", people("plain 0 1", "child 0 1", "child 99 9", "plain 99 9"), 0, 1);
         int[] seen = {1, 2, 216, 108};
         for (int p = 0; p < 4; p++) {
@@ -45,7 +45,7 @@ public final class EdgeDayTest {
     }
 
     @Says("of a poet that and 3 times as many days as FASTED one behind the other right ahead of that DAY;")
-    private static void term2_seenHungerOfAPoet(Due due) {
+    private static void promise9_seenHungerOfAPoet(Due due) {
         LeanTable x = Due.lay(Texts.table("bowl 9 starve 90 flinch 0", "poet 0 1") + Texts.names(0, 9)
             + ";fast a day 1;fast a day 2;fast a day 4");
         int[] seen = {1, 5, 9, 1, 5, 1};
@@ -56,7 +56,7 @@ public final class EdgeDayTest {
     }
 
     @Says("3 The one of most SEEN hunger, of like ones the first, names the dish:")
-    private static void term2_ofLikeOnesTheFirstNames(Due due) {
+    private static void promise11_ofLikeOnesTheFirstNames(Due due) {
         int[] names = {0, 1};
         due.is("namer(), both 6", lay("bowl 1 starve 99 flinch 0", people("plain 5 1", "child 2 1"), names).namer(), 0);
         due.is("namer(), both 6", lay("bowl 1 starve 99 flinch 0", people("child 2 1", "plain 5 1"), names).namer(), 0);
@@ -67,7 +67,7 @@ public final class EdgeDayTest {
     }
 
     @Says("of names whose from is no more than that SEEN hunger the one of the greatest from.")
-    private static void term2_theNameOfTheGreatestFrom(Due due) {
+    private static void promise12_theNameOfTheGreatestFrom(Due due) {
         LeanTable x = lay("bowl 1 starve 99 flinch 0", people("plain 5 1"), 7, 1, 6, 1, 0, 1, 5, 1);
         due.is("dish(), 6 by from 6", x.dish(), 1);
         LeanTable y = lay("bowl 1 starve 99 flinch 0", people("plain 5 1"), 7, 1, 8, 1, 0, 1, 5, 1);
@@ -83,7 +83,7 @@ public final class EdgeDayTest {
     }
 
     @Says("4 The bowl has its portions, and what was left (99 at most).")
-    private static void term2_99PortionsAtMost(Due due) {
+    private static void promise19_99PortionsAtMost(Due due) {
         LeanTable x = lay("bowl 20 starve 200 flinch 0", people("plain 0 1"), 0, 0);
         x.bid(0);
         int[][] poured = {{78, 98}, {1, 99}, {1, 99}, {19, 99}};
@@ -97,7 +97,7 @@ public final class EdgeDayTest {
     }
 
     @Says("Those who don't fast eat, the hungriest (not SEEN) ahead, of like ones the first,")
-    private static void term2_theHungriestEatsAhead(Due due) {
+    private static void promise13_theHungriestEatsAhead(Due due) {
         LeanTable child = lay("bowl 1 starve 99 flinch 0", people("child 3 1", "plain 5 1"), 0, 1);
         due.is("namer()", child.namer(), 0);
         due.is("share(0), 4 though 8 is SEEN", child.share(0), 0);
@@ -113,7 +113,7 @@ public final class EdgeDayTest {
     }
 
     @Says("in that order, round by round, one portion each time one's hunger is above 0:")
-    private static void term2_roundByRound(Due due) {
+    private static void promise13_roundByRound(Due due) {
         LeanTable x = lay("bowl 5 starve 99 flinch 0", people("plain 1 1", "plain 9 1"), 0, 2);
         due.is("share(0), not hungry behind one", x.share(0), 1);
         due.is("share(1)", x.share(1), 4);
@@ -124,7 +124,7 @@ public final class EdgeDayTest {
     }
 
     @Says("it is less by what that name is worth (0 at least);")
-    private static void term2_lessByTheWorth0AtLeast(Due due) {
+    private static void promise18_lessByTheWorth0AtLeast(Due due) {
         int[][] byHunger = {{1, 0, 1}, {2, 0, 1}, {3, 0, 2}, {0, 0, 1}};
         for (int[] h : byHunger) {
             LeanTable x = lay("bowl 9 starve 99 flinch 0", people("plain " + h[0] + " 1"), 0, 3);
@@ -136,7 +136,7 @@ public final class EdgeDayTest {
     }
 
     @Says({"till there is no portion more, or nobody of them is hungry.", "What isn't eaten is left."})
-    private static void term2_whatIsntEatenIsLeft(Due due) {
+    private static void promise19_whatIsntEatenIsLeft(Due due) {
         LeanTable x = lay("bowl 5 starve 99 flinch 0", people("plain 0 1"), 0, 1);
         due.is("leftIn(1)", x.leftIn(1), 4);
         due.is("leftIn(2)", x.leftIn(2), 8);
@@ -150,7 +150,7 @@ public final class EdgeDayTest {
     }
 
     @Says("5 Whose hunger is above starve is DEAD,")
-    private static void term2_aboveStarveIsDead(Due due) {
+    private static void promise20_aboveStarveIsDead(Due due) {
         LeanTable x = lay("bowl 1 starve 9 flinch 0", people("plain 8 1"), 0, 0);
         due.is("livingIn(1), 9", x.livingIn(1), 1);
         due.is("livingIn(2), 10", x.livingIn(2), 0);
@@ -162,7 +162,7 @@ public final class EdgeDayTest {
     }
 
     @Says("ever after; it stays as it is.")
-    private static void term2_deadEverAfter(Due due) {
+    private static void promise20_deadEverAfter(Due due) {
         LeanTable x = Due.lay(oneDies());
         due.is("namerIn(1)", x.namerIn(1), 0);
         due.is("namerIn(2), the DEAD one doesn't", x.namerIn(2), 1);
@@ -175,7 +175,7 @@ public final class EdgeDayTest {
     }
 
     @Says("(With nobody who lives nothing is named, nothing eaten; portions are left as ever.)")
-    private static void term2_withNobodyWhoLives(Due due) {
+    private static void promise17_withNobodyWhoLives(Due due) {
         LeanTable x = Due.lay(Texts.DOOMED);
         due.is("dishIn(1)", x.dishIn(1), 0);
         due.is("dishIn(2)", x.dishIn(2), -2);
@@ -190,7 +190,7 @@ public final class EdgeDayTest {
     }
 
     @Says("One FASTS on a DAY if told so for its number (1 the first),")
-    private static void term2_oneFastsOnADayAsTold(Due due) {
+    private static void promise24_oneFastsOnADayAsTold(Due due) {
         LeanTable x = Due.lay(Texts.FED + ";fast a day 1;fast a day 60");
         due.is("share(0), the first day", x.share(0), 0);
         due.is("hungerIn(0, 1)", x.hungerIn(0, 1), 1);
@@ -204,7 +204,7 @@ public final class EdgeDayTest {
     }
 
     @Says("or if NOW bidden to for the next one (behind which nobody is bidden any more).")
-    private static void term2_biddenForTheNextDayAlone(Due due) {
+    private static void promise50_biddenForTheNextDayAlone(Due due) {
         LeanTable x = Due.lay(Texts.table("bowl 9 starve 99 flinch 0", "plain 0 1", "plain 0 1") + Texts.names(0, 1));
         x.bid(0);
         x.bid(1);

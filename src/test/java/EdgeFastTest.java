@@ -20,7 +20,7 @@ public final class EdgeFastTest {
     // ---- III: FASTS
 
     @Says({"III. From NOW on.", "FASTS for a name in n DAYS (1 .. 3): the fewest (one a person, a DAY) who fast besides"})
-    private static void term3_eachDayOfAPersonCountsOne(Due due) {
+    private static void promise29_eachDayOfAPersonCountsOne(Due due) {
         LeanTable x = Due.lay(Texts.LONELY_POET.replace("from 5", "from 9"));
         fasts(due, x, 0, 1, 0, 0);
         fasts(due, x, 1, 1, -2, -2);
@@ -35,14 +35,14 @@ public final class EdgeFastTest {
     }
 
     @Says("the fewest (one a person, a DAY) who fast besides")
-    private static void term3_theFewestAheadOfTheLeastBits(Due due) {
+    private static void promise29_theFewestAheadOfTheLeastBits(Due due) {
         LeanTable x = Due.lay(TWO_MORE);
         fasts(due, x, 0, 2, 1, 4);
         fasts(due, x, 1, 2, 0, 0);
     }
 
     @Says("(none who is DEAD, or would fast then anyway)")
-    private static void term3_whoWouldFastAnywayIsNotCounted(Due due) {
+    private static void promise29_whoWouldFastAnywayIsNotCounted(Due due) {
         LeanTable x = Due.lay(Texts.LONELY_POET);
         fasts(due, x, 1, 2, 1, 1);
         x.bid(0);
@@ -59,7 +59,7 @@ public final class EdgeFastTest {
     }
 
     @Says("(none who is DEAD, or would fast then anyway)")
-    private static void term3_theDeadDontFast(Due due) {
+    private static void promise29_theDeadDontFast(Due due) {
         LeanTable x = Due.lay(Texts.table("bowl 9 starve 5 flinch 0", "poet 90 1", "poet 0 1") + Texts.names(0, 9, 5, 1));
         x.day();
         due.is("livingIn(0)", x.livingIn(0), 2);
@@ -72,7 +72,7 @@ public final class EdgeFastTest {
     }
 
     @Says("by which the n-th DAY's dish has that name, and nobody comes to be DEAD within them:")
-    private static void term3_nobodyComesToBeDeadWithinThem(Due due) {
+    private static void promise29_nobodyComesToBeDeadWithinThem(Due due) {
         LeanTable x = Due.lay(Texts.table("bowl 2 starve 10 flinch 0", "plain 8 2", "plain 9 3") + Texts.names(0, 1));
         due.is("livingIn(1), both eat one: 9 and 11", x.livingIn(1), 1);
         fasts(due, x, 0, 1, 1, 1);
@@ -92,7 +92,7 @@ public final class EdgeFastTest {
     }
 
     @Says("of like ones the least bits (of the k-th DAY's p-th person, from 0: 5 times k and p).")
-    private static void term3_ofLikeOnesTheLeastBits(Due due) {
+    private static void promise30_ofLikeOnesTheLeastBits(Due due) {
         LeanTable x = Due.lay(TWO_POETS);
         fasts(due, x, 1, 2, 1, 1);
         fasts(due, x, 1, 3, 1, 32);
@@ -190,7 +190,7 @@ public final class EdgeFastTest {
     // ---- III: a GUEST
 
     @Says("A GUEST names, eating nothing, if his SEEN hunger is more than everybody's;")
-    private static void term3_aGuestNamesIfHisIsMore(Due due) {
+    private static void promise14_aGuestNamesIfHisIsMore(Due due) {
         LeanTable x = Due.lay(Texts.table("bowl 3 starve 90 flinch 0", "child 4 1", "plain 6 1") + Texts.names(0, 1, 7, 1, 10, 1, 11, 1));
         due.is("nameWith(10), no more than a's", x.nameWith(10), 2);
         due.is("nameWith(7), less", x.nameWith(7), 2);
@@ -201,7 +201,7 @@ public final class EdgeFastTest {
     }
 
     @Says("he isn't there on any other DAY.")
-    private static void term3_aGuestIsThereOnNoOtherDay(Due due) {
+    private static void promise14_aGuestIsThereOnNoOtherDay(Due due) {
         LeanTable x = Due.lay(Texts.FEAST);
         x.nameWith(999);
         x.guestFor(2);

@@ -13,7 +13,7 @@ public final class EdgeTextTest {
     // ---- I: THE TAPE and its TOKENS
 
     @Says("THE TAPE has 700 bytes;")
-    private static void term1_aTextOf700BytesIsReadToItsLastOne(Due due) {
+    private static void promise3_aTextOf700BytesIsReadToItsLastOne(Due due) {
         String last = ";name o from 7 worth 20";
         StringBuilder text = new StringBuilder(SHORT);
         while (text.length() < 700 - last.length()) {
@@ -28,7 +28,7 @@ public final class EdgeTextTest {
     }
 
     @Says("blanks, 32, part TOKENS and mean nothing else;")
-    private static void term1_blanksPartTokensAndMeanNothingElse(Due due) {
+    private static void promise3_blanksPartTokensAndMeanNothingElse(Due due) {
         due.good("   " + SHORT.replace(" ", "   ").replace(";", "  ;  ") + "   ", 1);
         due.good(SHORT.replaceAll(" (?=[0-9])", "").replaceAll("(?<=[0-9]) ", ""), 1);
         due.faultAt(1, "^ta ble bowl 3 starve 9 flinch 0");
@@ -37,7 +37,7 @@ public final class EdgeTextTest {
     }
 
     @Says("1 FORM: the first byte that begins no TOKEN,")
-    private static void term1_otherBytesBeginNoToken(Due due) {
+    private static void promise3_otherBytesBeginNoToken(Due due) {
         for (int b = 0; b < 256; b++) {
             boolean begins = b == ' ' || b == ';' || b >= 'a' && b <= 'z' || b >= '0' && b <= '9';
             if (!begins) {
@@ -49,7 +49,7 @@ public final class EdgeTextTest {
     }
 
     @Says("TOKENS: WORDS of 1 to 8 small letters that stand together,")
-    private static void term1_wordsHaveOneToEightLetters(Due due) {
+    private static void promise3_wordsHaveOneToEightLetters(Due due) {
         due.good(SHORT.replace(" a ", " z "), 1);
         due.good(SHORT.replace(" a ", " abcdefgh "), 1);
         due.good(SHORT.replace(" a ", " zyxwvuts ").replace(" n ", " zyxwvutr "), 1);
@@ -62,7 +62,7 @@ public final class EdgeTextTest {
     }
 
     @Says({"LINE, one of:", "or TOKEN with which no TABLE goes on"})
-    private static void term1_eachWordIsWrittenSo(Due due) {
+    private static void promise3_eachWordIsWrittenSo(Due due) {
         String text = SHORT + ";fast a day 1;unsure a 1;heard n day 1";
         due.good(text, 1);
         java.util.regex.Matcher words = java.util.regex.Pattern.compile("[a-z]{2,}").matcher(text);
@@ -78,7 +78,7 @@ public final class EdgeTextTest {
     }
 
     @Says("WHOLES of 1 to 3 digits that do,")
-    private static void term1_wholesHaveOneToThreeDigits(Due due) {
+    private static void promise3_wholesHaveOneToThreeDigits(Due due) {
         due.is("bowl, one digit", Due.lay(SHORT).size(0), 3);
         due.is("bowl, two", Due.lay(SHORT.replace("bowl 3", "bowl 09")).size(0), 9);
         due.is("bowl, three", Due.lay(SHORT.replace("bowl 3", "bowl 019")).size(0), 19);
@@ -89,7 +89,7 @@ public final class EdgeTextTest {
     }
 
     @Says({"single ones of ;):", "LINE {; LINE}."})
-    private static void term1_linesArePartedByOneMark(Due due) {
+    private static void promise3_linesArePartedByOneMark(Due due) {
         due.faultAt(1, "^;" + SHORT);
         due.faultAt(1, HEAD + ";^;person a plain hunger 9 need 1");
         due.faultAt(1, SHORT + ";^");
@@ -102,7 +102,7 @@ public final class EdgeTextTest {
     // ---- I: the LINES and their bounds
 
     @Says("table bowl WHOLE starve WHOLE flinch WHOLE (1 .. 20; 5 .. 200; 0 .. 100 in a hundred),")
-    private static void term1_boundsOfTheTable(Due due) {
+    private static void promise3_boundsOfTheTable(Due due) {
         String rest = ";person a plain hunger 9 need 1;name n from 0 worth 1";
         LeanTable least = Due.lay("table bowl 1 starve 5 flinch 0" + rest);
         LeanTable most = Due.lay("table bowl 20 starve 200 flinch 100" + rest);
@@ -121,13 +121,13 @@ public final class EdgeTextTest {
     }
 
     @Says("ahead of all others")
-    private static void term1_theTableIsAheadOfAllOthers(Due due) {
+    private static void promise3_theTableIsAheadOfAllOthers(Due due) {
         due.faultAt(6, "^person a plain hunger 9 need 1;" + HEAD + ";name n from 0 worth 1");
         due.faultAt(6, "  ^name n from 0 worth 1;" + HEAD + ";person a plain hunger 9 need 1");
     }
 
     @Says("person NAME KIND hunger WHOLE need WHOLE (KIND: plain, poet, or child; 0 .. 99; 1 .. 9;")
-    private static void term1_boundsOfAPerson(Due due) {
+    private static void promise3_boundsOfAPerson(Due due) {
         String[] kinds = {"plain", "poet", "child"};
         for (int kind = 0; kind < 3; kind++) {
             LeanTable least = Due.lay(HEAD + ";person a " + kinds[kind] + " hunger 0 need 1;name n from 0 worth 1");
@@ -146,7 +146,7 @@ public final class EdgeTextTest {
     }
 
     @Says("name NAME from WHOLE worth WHOLE (0 .. 200, unlike; 0 .. 20;")
-    private static void term1_boundsOfAName(Due due) {
+    private static void promise3_boundsOfAName(Due due) {
         LeanTable x = Due.lay(HEAD + ";person a plain hunger 9 need 1" + Texts.names(200, 0, 0, 20, 1, 1, 199, 19));
         int[][] told = {{200, 0}, {0, 20}, {1, 1}, {199, 19}};
         for (int k = 0; k < told.length; k++) {
@@ -160,7 +160,7 @@ public final class EdgeTextTest {
     }
 
     @Says("fast PERSON day WHOLE (1 .. 60;")
-    private static void term1_boundsOfAFast(Due due) {
+    private static void promise3_boundsOfAFast(Due due) {
         LeanTable x = Due.lay(SHORT + ";fast a day 1;fast a day 60");
         due.is("size(5)", x.size(5), 2);
         due.faultAt(4, SHORT + ";fast a day ^0");
@@ -170,14 +170,14 @@ public final class EdgeTextTest {
     }
 
     @Says("each day of a PERSON once;")
-    private static void term1_eachDayOfAPersonOnce(Due due) {
+    private static void promise3_eachDayOfAPersonOnce(Due due) {
         due.good(FIVE + ";fast a day 7;fast b day 7;fast a day 8", 5);
         due.faultAt(3, FIVE + ";fast a day 7;fast b day 7;fast a day ^7");
         due.faultAt(3, FIVE + ";fast b day 60;fast b day ^060");
     }
 
     @Says({"unsure PERSON WHOLE (whose hunger at first may be that, 0 .. 99;", "each once;"})
-    private static void term1_boundsOfAnUnsureOne(Due due) {
+    private static void promise3_boundsOfAnUnsureOne(Due due) {
         due.is("size(6)", Due.lay(FIVE + ";unsure a 0;unsure b 99").size(6), 2);
         due.good(FIVE + ";unsure a7;unsure b99", 5);
         due.faultAt(4, FIVE + ";unsure a ^100");
@@ -186,7 +186,7 @@ public final class EdgeTextTest {
     }
 
     @Says({"or heard NAMED day WHOLE (a name, 1 .. 60;", "each day once;"})
-    private static void term1_boundsOfWhatWasHeard(Due due) {
+    private static void promise3_boundsOfWhatWasHeard(Due due) {
         String two = SHORT + ";name o from 5 worth 1";
         due.is("size(7)", Due.lay(two + ";heard n day 1;heard o day 60;heard n day 59").size(7), 3);
         due.faultAt(4, two + ";heard n day ^0");
@@ -196,14 +196,14 @@ public final class EdgeTextTest {
     }
 
     @Says({"up to 5)", "5 MANY: a LINE more of its sort than there is room for, at its first WORD."})
-    private static void term1_upToFivePeople(Due due) {
+    private static void promise3_upToFivePeople(Due due) {
         due.is("size(3)", Due.lay(FIVE).size(3), 5);
         due.faultAt(5, FIVE + ";^person f plain hunger 1 need 1");
         due.faultAt(5, FIVE + ";^person a");
     }
 
     @Says("up to 8)")
-    private static void term1_upToEightNames(Due due) {
+    private static void promise3_upToEightNames(Due due) {
         String eight = HEAD + ";person a plain hunger 9 need 1" + Texts.names(0, 1, 1, 1, 2, 1, 3, 1, 4, 1, 5, 1, 6, 1, 7, 1);
         due.is("size(4)", Due.lay(eight).size(4), 8);
         due.faultAt(5, eight + ";^name z from 8 worth 1");
@@ -211,7 +211,7 @@ public final class EdgeTextTest {
     }
 
     @Says({"up to 5)", "up to 8)"})
-    private static void term1_upToFivePeopleAndEightNames(Due due) {
+    private static void promise3_upToFivePeopleAndEightNames(Due due) {
         String names = Texts.names(0, 1, 1, 2, 2, 3, 3, 4, 4, 5, 5, 6, 6, 7, 7, 8);
         LeanTable x = Due.lay(FIVE.substring(0, FIVE.indexOf(";name")) + names);
         LeanTable y = Due.lay(HEAD + names + FIVE.substring(FIVE.indexOf(";person"), FIVE.indexOf(";name")));
@@ -222,7 +222,7 @@ public final class EdgeTextTest {
     }
 
     @Says("up to 8)")
-    private static void term1_upToEightFasts(Due due) {
+    private static void promise3_upToEightFasts(Due due) {
         String eight = FIVE + ";fast a day 1;fast b day 1;fast a day 2;fast b day 2;fast a day 3;fast b day 3;fast c day 1;fast d day 60";
         LeanTable x = Due.lay(eight);
         due.is("size(5)", x.size(5), 8);
@@ -234,7 +234,7 @@ public final class EdgeTextTest {
     }
 
     @Says("up to 4),")
-    private static void term1_upToFourUnsureOnes(Due due) {
+    private static void promise3_upToFourUnsureOnes(Due due) {
         String four = FIVE + ";unsure a 1;unsure b 2;unsure c 3;unsure d 4";
         due.is("size(6)", Due.lay(four).size(6), 4);
         due.faultAt(5, four + ";^unsure e 5");
@@ -242,7 +242,7 @@ public final class EdgeTextTest {
     }
 
     @Says("up to 6)")
-    private static void term1_upToSixHeard(Due due) {
+    private static void promise3_upToSixHeard(Due due) {
         String six = SHORT + ";heard n day 1;heard n day 2;heard n day 3;heard n day 4;heard n day 5;heard n day 60";
         due.is("size(7)", Due.lay(six).size(7), 6);
         due.is("judge(), all six so", Due.lay(six).judge(), -2);
@@ -251,7 +251,7 @@ public final class EdgeTextTest {
     }
 
     @Says("NAMES are WORDS but table, person, name, fast, unsure, heard;")
-    private static void term1_sixWordsAreNoNames(Due due) {
+    private static void promise3_sixWordsAreNoNames(Due due) {
         for (String word : RESERVED) {
             due.faultAt(1, HEAD + ";person ^" + word + " plain hunger 1 need 1");
             due.faultAt(1, HEAD + ";name ^" + word + " from 0 worth 1");
@@ -269,7 +269,7 @@ public final class EdgeTextTest {
     }
 
     @Says({"each told once, ahead of its use.", "2 a NAME that isn't told,"})
-    private static void term1_aNameIsToldAheadOfItsUse(Due due) {
+    private static void promise3_aNameIsToldAheadOfItsUse(Due due) {
         due.good(HEAD + ";name n from 0 worth 1;heard n day 1;person a plain hunger 9 need 1;fast a day 1;unsure a 1", 1);
         due.faultAt(2, HEAD + ";fast ^a day 1;person a plain hunger 9 need 1;name n from 0 worth 1");
         due.faultAt(2, HEAD + ";unsure ^a 1;person a plain hunger 9 need 1;name n from 0 worth 1");
@@ -280,7 +280,7 @@ public final class EdgeTextTest {
     }
 
     @Says("or is of another sort than must stand there; at it.")
-    private static void term1_aNameIsOfTheSortThatMustStandThere(Due due) {
+    private static void promise3_aNameIsOfTheSortThatMustStandThere(Due due) {
         due.faultAt(2, SHORT + ";fast ^n day 1");
         due.faultAt(2, SHORT + ";unsure ^n 1");
         due.faultAt(2, SHORT + ";heard ^a day 1");
@@ -289,7 +289,7 @@ public final class EdgeTextTest {
     // ---- I: FAULTS
 
     @Says("FAULTS, the first that is met from the left,")
-    private static void term1_theFirstFaultFromTheLeft(Due due) {
+    private static void promise3_theFirstFaultFromTheLeft(Due due) {
         due.faultAt(4, "table bowl ^21 starve 4 flinch 101 ? ");
         due.faultAt(1, "table bowl 1 ^? starve 4");
         due.faultAt(1, SHORT + ";fast ^? day 1");
@@ -303,7 +303,7 @@ public final class EdgeTextTest {
     }
 
     @Says("of one place the least number:")
-    private static void term1_ofOnePlaceTheLeastNumber(Due due) {
+    private static void promise3_ofOnePlaceTheLeastNumber(Due due) {
         due.faultAt(1, "^");
         due.faultAt(1, HEAD + ";^");
         due.faultAt(1, HEAD + ";name n from 1 worth^");
@@ -311,7 +311,7 @@ public final class EdgeTextTest {
     }
 
     @Says("or TOKEN with which no TABLE goes on (the end: its place).")
-    private static void term1_aTokenWithWhichNoTableGoesOn(Due due) {
+    private static void promise3_aTokenWithWhichNoTableGoesOn(Due due) {
         String[] parts = {"table", " bowl", " 3", " starve", " 9", " flinch", " 0", ";", "person", " a", " plain", " hunger", " 9",
             " need", " 1", ";", "name", " n", " from", " 0", " worth", " 1"};
         StringBuilder text = new StringBuilder();
@@ -327,7 +327,7 @@ public final class EdgeTextTest {
     }
 
     @Says("3 a NAME told again; at it;")
-    private static void term1_aNameToldAgain(Due due) {
+    private static void promise3_aNameToldAgain(Due due) {
         due.faultAt(3, SHORT + ";person ^a plain hunger 9 need 1");
         due.faultAt(3, SHORT + ";name ^n from 7 worth 1");
         due.faultAt(3, SHORT + ";person ^n plain hunger 9 need 1");
@@ -336,7 +336,7 @@ public final class EdgeTextTest {
     }
 
     @Says("a from, a day of a PERSON, a day heard told already; at that WHOLE;")
-    private static void term1_aWholeToldAlready(Due due) {
+    private static void promise3_aWholeToldAlready(Due due) {
         due.faultAt(3, SHORT + ";name o from ^000 worth 1");
         due.faultAt(3, SHORT + ";fast a day 60;fast a day ^60");
         due.faultAt(3, SHORT + ";heard n day 60;heard n day ^60");
@@ -344,32 +344,32 @@ public final class EdgeTextTest {
     }
 
     @Says("a PERSON unsure already; at it;")
-    private static void term1_aPersonUnsureAlready(Due due) {
+    private static void promise3_aPersonUnsureAlready(Due due) {
         due.faultAt(3, SHORT + ";unsure a 9;unsure ^a 9");
     }
 
     @Says("a second table: at that WORD.")
-    private static void term1_aSecondTable(Due due) {
+    private static void promise3_aSecondTable(Due due) {
         due.faultAt(3, HEAD + ";^" + HEAD);
         due.faultAt(3, SHORT + ";^table");
     }
 
     @Says("4 a WHOLE out of bounds; at it.")
-    private static void term1_aWholeOutOfBounds(Due due) {
+    private static void promise3_aWholeOutOfBounds(Due due) {
         due.faultAt(4, "table bowl ^000 starve");
         due.faultAt(4, "table bowl   ^999");
         due.faultAt(4, SHORT + ";heard n day^999");
     }
 
     @Says("6 LACKS: any LINE ahead of the table; at its WORD;")
-    private static void term1_anyLineAheadOfTheTable(Due due) {
+    private static void promise3_anyLineAheadOfTheTable(Due due) {
         for (int i = 1; i < RESERVED.length; i++) {
             due.faultAt(6, " ^" + RESERVED[i]);
         }
     }
 
     @Says("at the end: no person, or no name from 0.")
-    private static void term1_atTheEndNoPersonOrNoNameFrom0(Due due) {
+    private static void promise3_atTheEndNoPersonOrNoNameFrom0(Due due) {
         due.faultAt(6, HEAD + ";name n from 0 worth 1^");
         due.faultAt(6, HEAD + ";person a plain hunger 9 need 1^");
         due.faultAt(6, HEAD + ";person a plain hunger 9 need 1;name n from 1 worth 0^");

@@ -34,7 +34,7 @@ public final class EdgeUnsureTest {
     // ---- III: FITS and ASK
 
     @Says("FITS: sets of unsure people whose hunger at first was the other one")
-    private static void term3_fitsAreSetsOfUnsurePeople(Due due) {
+    private static void promise36_fitsAreSetsOfUnsurePeople(Due due) {
         fitting(due, Due.lay(Texts.UNSURE), 0);
         fitting(due, Due.lay(Texts.UNSURE + ";unsure b 5"), 0, 1);
         fitting(due, Due.lay(FOUR), 0, 1, 2, 3, 4, 5, 6, 7, 8, 9, 10, 11, 12, 13, 14, 15);
@@ -43,7 +43,7 @@ public final class EdgeUnsureTest {
     }
 
     @Says("by which, from the beginning on (as told, nothing else done), each name heard was the dish's of that DAY: all such.")
-    private static void term3_fromTheBeginningOnAsTold(Due due) {
+    private static void promise36_fromTheBeginningOnAsTold(Due due) {
         LeanTable x = Due.lay(Texts.UNSURE + ";unsure a 10;unsure b 20;heard mid day 1;heard mid day 2;fast a day 1");
         fitting(due, x, 1);
         x.bid(0);
@@ -59,7 +59,7 @@ public final class EdgeUnsureTest {
     }
 
     @Says("each name heard was the dish's of that DAY: all such.")
-    private static void term3_eachNameHeardOnItsDay(Due due) {
+    private static void promise36_eachNameHeardOnItsDay(Due due) {
         String text = Texts.table("bowl 1 starve 99 flinch 0", "plain 0 1") + Texts.names(0, 0, 61, 0) + ";unsure a 1";
         fitting(due, Due.lay(text + ";heard n day 60"), 1);
         fitting(due, Due.lay(text + ";heard m day 60"), 0);
@@ -72,7 +72,7 @@ public final class EdgeUnsureTest {
     }
 
     @Says("ASK: the unsure one by whom, it being told, at most fewest FITS are left, the first such.")
-    private static void term3_askTheOneByWhomFewestAreLeft(Due due) {
+    private static void promise40_askTheOneByWhomFewestAreLeft(Due due) {
         asking(due, Due.lay(FOUR), 0, 8);
         asking(due, Due.lay(FOUR + ";heard n day 1"), 0, 2);
         asking(due, Due.lay(Texts.UNSURE + ";unsure b 20;unsure a 10;heard top day 1"), 1, 1);
@@ -240,7 +240,7 @@ public final class EdgeUnsureTest {
     }
 
     @Says("FLINCH by chance: each DAY, as likely as told, the one who would name doesn't;")
-    private static void term3_asLikelyAsTold(Due due) {
+    private static void promise46_asLikelyAsTold(Due due) {
         int[][] likely = {{0, 0, 1, 1, 1}, {1, 1, 100, 99, 100}, {37, 37, 100, 63, 100}, {50, 1, 2, 1, 2}, {99, 99, 100, 1, 100},
             {100, 1, 1, 0, 1}};
         for (int[] l : likely) {
@@ -253,7 +253,7 @@ public final class EdgeUnsureTest {
     }
 
     @Says("then the next in SEEN hunger, of like ones the first, does (who alone lives names all the same).")
-    private static void term3_theNextInSeenHunger(Due due) {
+    private static void promise46_theNextInSeenHunger(Due due) {
         String always = "bowl 1 starve 99 flinch 100";
         int[] names = {0, 1, 6, 1, 7, 1, 8, 1, 10, 1};
         int[] dishes = {3, 2, 4, 1};

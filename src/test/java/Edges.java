@@ -5,7 +5,7 @@ import java.util.Arrays;
 import java.util.Comparator;
 import java.util.List;
 
-/** Tests that bear Says: methods promiseN_.. or termN_.., of the document's Promise N or of its N-th Term. */
+/** Tests that bear Says: methods promiseN_.., of words of Promise N or of the Terms that it uses. */
 final class Edges {
     static final List<Class<?>> CLASSES = List.of(EdgeTextTest.class, EdgeDayTest.class, EdgeFastTest.class,
         EdgeUnsureTest.class, EdgeActTest.class);

@@ -39,15 +39,11 @@ public final class Quotes {
 
     /** A promise's words may stand in its own part, or in the Terms. */
     private void mark(String test, String words) {
-        boolean found = false;
         int terms = document.indexOf("## Terms");
         int promises = document.indexOf("## Promise 1:");
         String number = test.substring(0, test.indexOf('_')).replaceAll("[a-z]", "");
-        if (test.startsWith("promise")) {
-            int start = document.indexOf("## Promise " + number + ":");
-            int end = document.indexOf("## ", start + 3);
-            found = markWithin(words, start, end);
-        }
+        int own = document.indexOf("## Promise " + number + ":");
+        boolean found = markWithin(words, own, document.indexOf("## ", own + 3));
         found |= markWithin(words, terms, promises);
         found |= markWithin(words, 0, document.indexOf("## The public face"));
         if (!found) {

@@ -1493,33 +1493,34 @@ public final class LeanTable {
             bestCount = NOT_FOUND;
             bestBits = 0;
             plights[0].copy(from);
-            seekOn(told, 0, 0);
+            seekOn(this, told, 0, 0);
         }
 
         /** The least that can come of a beginning is that nobody fasts later: what isn't better so needs no look. */
-        private void seekOn(Told told, int day, int bits) {
-            if (day < 0 || day >= days || day >= DAYS_TO_FAST) {
+        private static void seekOn(FastSearch search, Told told, int day, int bits) {
+            if (day < 0 || day >= search.days || day >= DAYS_TO_FAST) {
                 return;
             }
-            boolean isLast = day == days - 1;
-            if (isLast && plights[day].nextDish(told, false) != wanted) {
+            Plight plight = search.plights[day];
+            boolean isLast = day == search.days - 1;
+            if (isLast && plight.nextDish(told, false) != search.wanted) {
                 return;
             }
             // All who are safe fasting is the best for the others: who dies then dies by any fasts.
-            int free = plights[day].freeToFast(told) & ~plights[day].endangered(told);
-            if (!keepsAll(told, day, free)) {
+            int free = plight.freeToFast(told) & ~plight.endangered(told);
+            if (!search.keepsAll(told, day, free)) {
                 return;
             }
             for (int more = 0; more <= free; more++) {
                 int all = bits | more << MOST_PEOPLE * day;
-                if ((more & ~free) != 0 || !isBetter(all) || !keepsAll(told, day, more)) {
+                if ((more & ~free) != 0 || !search.isBetter(all) || !search.keepsAll(told, day, more)) {
                     continue;
                 }
                 if (isLast) {
-                    bestCount = Integer.bitCount(all);
-                    bestBits = all;
+                    search.bestCount = Integer.bitCount(all);
+                    search.bestBits = all;
                 } else {
-                    seekOn(told, day + 1, all);
+                    seekOn(search, told, day + 1, all);
                 }
             }
         }

@@ -9,6 +9,9 @@ import java.nio.file.Path;
 import java.util.ArrayList;
 import java.util.Arrays;
 import java.util.List;
+import java.util.Map;
+import java.util.Set;
+import java.util.TreeMap;
 import java.util.TreeSet;
 import java.util.regex.Matcher;
 import java.util.regex.Pattern;
@@ -94,7 +97,7 @@ public final class RulesTest {
     }
 
     private static void text(String text) {
-        DUE.part("rules 3, 4, 6, 10, 11");
+        DUE.part("rules 3, 4, 6, 8, 10, 11");
         String code = text.replaceAll("(?s)/\\*.*?\\*/", "").replaceAll("//[^\n]*", "");
         for (String f : FORBIDDEN) {
             Matcher m = Pattern.compile(f).matcher(code);
@@ -108,14 +111,40 @@ public final class RulesTest {
         while (thrown.find()) {
             DUE.yes("throw " + thrown.group(1), thrown.group(1).equals("new NoSuchElementException()"));
         }
-        String[] lines = text.split("\n");
-        int start = 0;
-        for (int i = 0; i < lines.length; i++) {
-            boolean opens = lines[i].matches(" {4}( {4})?[a-zA-Z].*\\) (throws [a-zA-Z]+ )?\\{");
-            start = opens ? i : start;
-            boolean closes = lines[i].matches(" {4}( {4})?\\}");
-            DUE.yes("a method of at most sixty lines at " + (start + 1), !closes || i - start <= 60 || lines[i].startsWith("    }"));
+        methods(code);
+    }
+
+    /** Bodies by headers: a header and the brace that closes its body stand equally far in. */
+    private static void methods(String code) {
+        Pattern method = Pattern.compile("(?ms)^( +)((?:[a-zA-Z\\[\\]]+ )*)([a-zA-Z]+)\\([^()]*\\)(?: throws [a-zA-Z]+)? \\{\n(.*?)^\\1\\}$");
+        Map<String, Set<String>> called = new TreeMap<>();
+        for (Matcher m = method.matcher(code); m.find();) {
+            called.put(m.group(3), new TreeSet<>());
         }
+        DUE.yes("methods are found: " + called.size(), called.size() > 100);
+        for (Matcher m = method.matcher(code); m.find();) {
+            String name = m.group(3);
+            DUE.yes("rule 11: " + name + " has at most sixty lines", m.group(4).split("\n").length <= 60);
+            for (String other : called.keySet()) {
+                if (Pattern.compile("\\b" + other + "\\(").matcher(m.group(4)).find()) {
+                    called.get(name).add(other);
+                }
+            }
+            boolean callsItself = called.get(name).remove(name);
+            DUE.yes("rule 8: " + name + " is private and static if it calls itself", !callsItself || m.group(2).startsWith("private static "));
+        }
+        for (String name : called.keySet()) {
+            DUE.yes("rule 11: " + name + " leads at most eight calls deep", depth(called, name, 0) <= 8);
+        }
+    }
+
+    /** Methods of one name in several classes count as one: more deep than it is, never less. */
+    private static int depth(Map<String, Set<String>> called, String name, int above) {
+        int most = above + 1;
+        for (String other : called.get(name)) {
+            most = Math.max(most, above > 20 ? above : depth(called, other, above + 1));
+        }
+        return most;
     }
 
     /** Rows are made with the object; calls make none. */
